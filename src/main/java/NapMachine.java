@@ -333,7 +333,7 @@ public final class NapMachine {
         private static final int TAR = 0x170;
         private static final int CCR0 = 0x172;
         private static final int CCR2 = 0x176;
-        private static final int CTL_KEPT = 0x3F3;
+        private static final int CTL_KEPT = 0xFFFB;
         private static final int CTL_ASKS = 3;
         private static final int CC_ASKS = 0x11;
         private static final int SLOW = 1;
@@ -990,11 +990,15 @@ public final class NapMachine {
                 case 14:
                     return exclusive(source, destination);
                 default:
-                    // BIT and AND
-                    int both = source & destination;
-                    putFlags(both, both != 0, false);
-                    return both;
+                    return common(source, destination);
             }
+        }
+
+        /** BIT and AND. */
+        private int common(int a, int b) {
+            int result = a & b;
+            putFlags(result, result != 0, false);
+            return result;
         }
 
         private int sum(int a, int b, int carry) {
