@@ -78,6 +78,9 @@ final class AssemblerTest {
         makes("push r4", 0x1204);
         makes("push.b @r4+", 0x1274);
         makes("push #1", 0x1230, 1);
+        makes("push.b#1", 0x1270, 1);
+        faults("push #70000", 2, 6);
+        faults("push q", 4, 5);
         makes("push #-1", 0x1230, 0xFFFF);
         makes("call #8", 0x12B0, 8);
         makes("call 0xc002", 0x1290, 0);
@@ -120,6 +123,7 @@ final class AssemblerTest {
         makes("br #0xd000", 0x4030, 0xD000);
         makes("br #4", 0x4220);
         makes("br @r4+", 0x4430);
+        makes("mov r4,6(r5)\nbr r6\nclr r7", 0x4485, 6, 0x4600, 0x4307);
         makes("br 0xc002", 0x4010, 0);
         makes("pop r4", 0x4134);
         makes("pop &0x200", 0x41B2, 0x200);
@@ -177,7 +181,7 @@ final class AssemblerTest {
 
     private static void labels() {
         NapMachine m = new NapMachine();
-        Check.same("labels", Check.assemble(m, "\naB9zZ123:nop\n\nr16: nop ;x:\nb: ;b:\n"), 4);
+        Check.same("labels", Check.assemble(m, "\naAZz0912:nop\n\nr16: nop ;x:\nb: ;b:\n"), 4);
         Check.same("line 0", m.label(0), -1);
         Check.same("line 1", m.label(1), 0xC000);
         Check.same("line 2", m.label(2), -1);
@@ -190,6 +194,14 @@ final class AssemblerTest {
         Check.same("the latest good ones do", m.label(3), 0xC002);
         Check.same("a text without labels", Check.assemble(m, "nop"), 2);
         Check.same("has none", m.label(3), -1);
+        for (int k = 0; k < 4; k++) {
+            Check.same("the same labels again", Check.assemble(m, "o: nop\np: jmp o"), 4);
+        }
+        Check.same("no label of an older text is told", Check.assemble(m, "jmp p"), -5);
+        Check.same("its kind", m.fault(), 4);
+        Check.same("none of an older one with a fault", Check.assemble(m, "x: nop\njmp p"), -12);
+        Check.same("again", Check.assemble(m, "jmp x"), -5);
+        makes("word 0xa,0xaf,0x9", 10, 0xAF, 9);
         makes("a: mov #b,r4\nb: jmp a", 0x4034, 0xC004, 0x3FFD);
         makes("mov a,r4\na: nop", 0x4014, 2, 0x4303);
         makes("mov a-0xc000(r4),&a+2\na:", 0x4492, 6, 0xC008);

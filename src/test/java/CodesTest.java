@@ -88,6 +88,7 @@ final class CodesTest {
         does("bic.b r4,r5", 0x120F, 0x34FF, 0, 0xF0, 0);
         does("bis.b r4,r5", 0x120F, 0x34F0, 0, 0xFF, 0);
         does("xor.b r4,r5", 0x80, 0x80, 0, 0, Z | V);
+        does("xor.b r4,r5", 0x01, 0x81, 0, 0x80, C | N);
         does("and.b r4,r5", 0xFF0F, 0xFFF0, 0, 0, Z);
         does("mov.b #-1,r5", 0, 0, 0, 0xFF, 0);
     }
@@ -161,6 +162,10 @@ final class CodesTest {
         Check.same("rra #0x8001", m.register(2), N | C);
         Check.same("is written to its place", Check.word(m, 0xC00C), 0xC000);
         Check.same("PC is behind it", m.register(0), 0xC00E);
+        NapMachine behind = Check.machine("mov #0x1234,r4\nrra #8\nmov r4,&0x300\nswpb #2");
+        behind.run(4, -1);
+        Check.same("not where the latest one wrote", behind.register(4), 0x1234);
+        Check.same("nor there", Check.word(behind, 0x300), 0x1234);
     }
 
     private static void sources() {
@@ -232,6 +237,12 @@ final class CodesTest {
         Check.putWord(compares, 0x300, 5);
         compares.run(2, -1);
         Check.same("cmp and bit write nowhere", Check.word(compares, 0x300), 5);
+        NapMachine flagged = Check.machine("mov r4,&0x300\nmov &0x300,r5");
+        flagged.set(2, 0x107);
+        flagged.set(4, 0x1234);
+        flagged.run(2, -1);
+        Check.same("absolute, whatever R2 is", Check.word(flagged, 0x300), 0x1234);
+        Check.same("likewise of the source", flagged.register(5), 0x1234);
         NapMachine wrap = Check.machine("mov r4,0x8000(r6)");
         wrap.set(4, 0x1234);
         wrap.set(6, 0x8300);
@@ -346,12 +357,16 @@ final class CodesTest {
     }
 
     private static void whatIsNoCode() {
+        NapMachine edge = Check.machine("word 0x2000,0x4000");
+        Check.same("0x2000 and 0x4000 are CODES", edge.run(2, -1), 0);
+        Check.same("jne, mov r0,r0", edge.register(0), 0xC004);
+        Check.same("CYCLES", edge.count(0), 4);
         for (int word = 0; word < 0x2000; word++) {
             boolean one = word >= 0x1000 && word < 0x1400;
             int which = word >> 7 & 7;
             boolean b = (word & 0x40) != 0;
             boolean isCode = one && which != 7 && !(b && (which == 1 || which == 3 || which == 5 || which == 6));
-            if (!one && word % 37 != 0) {
+            if (!one && word % 37 != 0 && word != 0x1400 && word != 0x1FFF) {
                 continue;
             }
             NapMachine m = new NapMachine();

@@ -40,6 +40,9 @@ final class ListTest {
         tells("dadd @r4,r5", 0xA425);
         tells("bit @r4+,r5", 0xB435);
         tells("cmp #1234,r5", 0x9035, 1234);
+        tells("cmp #3,r5", 0x9035, 3);
+        tells("jne 49154", 0x2000);
+        tells("mov r0,r0", 0x4000);
         tells("bis #65534,r5", 0xD035, 0xFFFE);
         tells("rrc r4", 0x1004);
         tells("rrc.b #0", 0x1043);
@@ -97,6 +100,9 @@ final class ListTest {
         Check.same("behind 0xffff", m.count(7), 0);
         Check.same("a second X beyond", Check.listed(m, 0xFFFC), "word 16528");
         Check.same("behind", m.count(7), 0xFFFE);
+        Check.putWord(m, 0xFFFE, 0x1230);
+        Check.same("push's # beyond", Check.listed(m, 0xFFFE), "word 4656");
+        Check.same("the first address", Check.listed(m, 0), "word 0");
         Check.putWord(m, 0xFFFC, 0x4034);
         Check.putWord(m, 0xFFFE, 1234);
         Check.same("X at 0xfffe", Check.listed(m, 0xFFFC), "mov #1234,r4");

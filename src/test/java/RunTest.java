@@ -4,6 +4,8 @@ final class RunTest {
         stopping();
         wrongArguments();
         reset();
+        resetOfHiddenThings();
+        timerGoesUpAgain();
         eventLimits();
         eventsInOrder();
         portWakes();
@@ -90,6 +92,64 @@ final class RunTest {
         Check.same("an event at 0", m.event(0, 1), 1);
     }
 
+    private static void resetOfHiddenThings() {
+        NapMachine m = Check.machine("mov #0x18,sr\norg 0xffe4\nword 0xd000\norg 0xd000\nmov #0x10,sr");
+        m.poke(0x24, 0x0F);
+        m.poke(0x25, 0xF0);
+        m.event(5, 0xF0);
+        Check.putWord(m, 0x13C, 7);
+        Check.putWord(m, 0x132, 0xFFFF);
+        Check.putWord(m, 0x138, 1);
+        for (int address = 0x162; address <= 0x166; address += 2) {
+            Check.putWord(m, address, 0x11);
+        }
+        Check.putWord(m, 0x162, 0);
+        Check.putWord(m, 0x164, 0);
+        Check.putWord(m, 0x166, 1);
+        Check.putWord(m, 0x172, 4);
+        Check.putWord(m, 0x160, 0x230);
+        m.run(20, -1);
+        Check.same("an interrupt", m.count(2), 1);
+        Check.same("naps", m.count(3) > 5, true);
+        Check.same("IFG of the PORT", m.peek(0x23), 0xF0);
+        Check.same("IN", m.peek(0x20), 0xF0);
+        Check.same("IFG of CC0", Check.word(m, 0x162), 1);
+        m.reset();
+        Check.same("no interrupt", m.count(2), 0);
+        Check.same("no nap", m.count(3), 0);
+        for (int address = 0; address < 0x200; address++) {
+            Check.same("a THING", m.peek(address), 0);
+        }
+        Check.putWord(m, 0x138, 0xFFFF);
+        Check.same("no sign is left", Check.word(m, 0x13E), 0);
+        Check.putWord(m, 0x130, 0xFFFF);
+        Check.putWord(m, 0x138, 1);
+        Check.same("none of the product", Check.word(m, 0x13C), 0);
+    }
+
+    /** The timer goes down, when it is written or reset; then it goes up. */
+    private static void timerGoesUpAgain() {
+        for (int way = 0; way < 3; way++) {
+            NapMachine m = new NapMachine();
+            m.set(2, 0x10);
+            Check.putWord(m, 0x172, 6);
+            Check.putWord(m, 0x160, 0x230);
+            m.run(9, -1);
+            Check.same("it goes down", Check.word(m, 0x170), 3);
+            if (way == 1) {
+                m.poke(0x160, 0x34);
+            } else if (way == 2) {
+                m.reset();
+                m.set(2, 0x10);
+                Check.putWord(m, 0x172, 6);
+                Check.putWord(m, 0x160, 0x230);
+            }
+            Check.putWord(m, 0x170, 3);
+            m.run(1, -1);
+            Check.same("on as it went, or up at first", Check.word(m, 0x170), way == 0 ? 2 : 4);
+        }
+    }
+
     private static void eventLimits() {
         NapMachine m = Check.machine("nop\nnop\nnop\nnop");
         m.run(2, -1);
@@ -169,6 +229,10 @@ final class RunTest {
         Check.putWord(m, 0x162, 0x11);
         m.run(1, -1);
         Check.same("without GIE none is taken", m.count(2), 0);
+        m.set(2, 0x107);
+        m.set(0, 0xC000);
+        m.run(1, -1);
+        Check.same("nor with other flags", m.count(2), 0);
         m.set(2, 8);
         m.run(1, 0xD000);
         Check.same("taken", m.register(0), 0xD000);

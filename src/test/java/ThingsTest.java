@@ -65,6 +65,16 @@ final class ThingsTest {
         Check.same("0x136", code.register(8), 0);
         Check.same("the lowest bit of a word's address", code.register(9), 0xFF00);
         Check.same("OUT", code.register(10), 0xFF);
+        NapMachine apart = Check.machine("mov #0x1234,&0x20\nmov #0x5678,&0x22\nmov #0x9abc,&0x24\nmov #0xdef0,&0x200\n"
+            + "mov &0x200,r4\nmov.b &0x201,r5\nmov.b #7,&0x200\nmov &0x200,r6");
+        apart.run(8, -1);
+        int[] due = {0, 0x12, 0, 0x56, 0xBC, 0x9A};
+        for (int k = 0; k < due.length; k++) {
+            Check.same("byte " + k + " of the PORT", apart.peek(0x20 + k), due[k]);
+        }
+        Check.same("memory from 0x200 on", apart.register(4), 0xDEF0);
+        Check.same("a byte of it", apart.register(5), 0xDE);
+        Check.same("a byte of it written", apart.register(6), 0xDE07);
     }
 
     private static void port() {
@@ -128,6 +138,11 @@ final class ThingsTest {
         m.run(4, -1);
         Check.same("added twice", Check.word(m, 0x13A), 14);
         Check.same("0x13e is not written", Check.word(m, 0x13E), 0);
+        NapMachine signed = Check.machine("mov #-1,&0x132\nmov #1,&0x138\nmov #2,&0x130\nmov #1,&0x138");
+        signed.run(2, -1);
+        Check.same("below 0", Check.word(signed, 0x13E), 0xFFFF);
+        signed.run(2, -1);
+        Check.same("not again", Check.word(signed, 0x13E), 0);
     }
 
     private static void multiplierByBytes() {
@@ -283,9 +298,9 @@ final class ThingsTest {
             Check.same("clock " + clock, Check.word(m, 0x170), counted[clock]);
             Check.same("TIME", m.count(0), 50);
         }
-        int[] off = {0x20, 0x80, 0x40, 0xA0};
-        int[] slow = {0, 3, 3, 0};
-        int[] fast = {50, 0, 50, 0};
+        int[] off = {0x20, 0x80, 0x40, 0xA0, 0x107};
+        int[] slow = {0, 3, 3, 0, 3};
+        int[] fast = {50, 0, 50, 0, 50};
         for (int k = 0; k < off.length; k++) {
             for (int clock = 1; clock <= 2; clock++) {
                 NapMachine m = new NapMachine();
