@@ -1061,6 +1061,7 @@ public final class NapMachine {
         private final int[] places = new int[ROOM];
         private final int[] values = new int[ROOM];
         private final long[] keys = new long[ROOM];
+        private final long[] nameKeys = new long[NAME_COUNT];
         private final int[] text;
         private int length;
         private int total;
@@ -1071,6 +1072,9 @@ public final class NapMachine {
 
         Tokens(int[] text) {
             this.text = text;
+            for (int name = 0; name < NAME_COUNT; name++) {
+                nameKeys[name] = nameKey(name);
+            }
         }
 
         static int nameSign(int name, int k) {
@@ -1216,13 +1220,17 @@ public final class NapMachine {
             return twoDigits ? 10 + third - '0' : NONE;
         }
 
-        private static int nameOf(long key) {
+        private static long nameKey(int name) {
+            long key = 0;
+            for (int k = 0; k < NAME_WIDTH && nameSign(name, k) != ' '; k++) {
+                key = (key << 8) | nameSign(name, k);
+            }
+            return key;
+        }
+
+        private int nameOf(long key) {
             for (int name = 0; name < NAME_COUNT; name++) {
-                long own = 0;
-                for (int k = 0; k < NAME_WIDTH && nameSign(name, k) != ' '; k++) {
-                    own = (own << 8) | nameSign(name, k);
-                }
-                if (own == key) {
+                if (nameKeys[name] == key) {
                     return name;
                 }
             }

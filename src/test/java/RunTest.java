@@ -125,6 +125,11 @@ final class RunTest {
         Check.putWord(m, 0x130, 0xFFFF);
         Check.putWord(m, 0x138, 1);
         Check.same("none of the product", Check.word(m, 0x13C), 0);
+        Check.putWord(m, 0x134, 1);
+        m.reset();
+        Check.putWord(m, 0x13A, 7);
+        Check.putWord(m, 0x138, 1);
+        Check.same("none is to be added", Check.word(m, 0x13A), 0);
     }
 
     /** The timer goes down, when it is written or reset; then it goes up. */
