@@ -81,11 +81,11 @@ public final class NapMachine {
             throw new IllegalArgumentException("steps are 0 to 5000");
         }
         latestSteps = 0;
-        while (latestSteps < n) {
+        for (int k = 1; k <= n; k++) {
             if (!core.step()) {
                 return 2;
             }
-            latestSteps++;
+            latestSteps = k;
             if (core.registerValue(Core.PC) == at) {
                 return 1;
             }
@@ -1124,14 +1124,16 @@ public final class NapMachine {
             at = 0;
             int behind = 0;
             boolean more = true;
-            for (total = 0; more && total < ROOM; total++) {
+            total = 0;
+            for (int k = 0; more && k < ROOM; k++) {
                 int start = passBlanks(behind);
                 behind = scanOne(start, start == behind);
-                kinds[total] = foundKind;
-                places[total] = start;
-                values[total] = foundValue;
-                keys[total] = foundKey;
+                kinds[k] = foundKind;
+                places[k] = start;
+                values[k] = foundValue;
+                keys[k] = foundKey;
                 more = foundKind != BAD && start < length;
+                total = k + 1;
             }
         }
 
@@ -1446,7 +1448,8 @@ public final class NapMachine {
             place = FIRST_PLACE;
             madeLength = 0;
             tokens.rewind();
-            for (line = 0; line <= TEXT_ROOM; line++) {
+            for (int k = 0; k <= TEXT_ROOM; k++) {
+                line = k;
                 if (!readLine()) {
                     return false;
                 }

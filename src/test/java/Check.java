@@ -105,6 +105,35 @@ final class Check {
         return text.toString();
     }
 
+    /** All that calls tell of a machine without changing it. */
+    static String state(NapMachine machine) {
+        StringBuilder text = new StringBuilder("fault ").append(machine.fault()).append(", counts");
+        for (int what = -1; what <= 8; what++) {
+            text.append(' ').append(machine.count(what));
+        }
+        text.append(", registers");
+        for (int r = 0; r < 16; r++) {
+            text.append(' ').append(machine.register(r));
+        }
+        text.append(", OUT \"");
+        for (int k = 0; k < machine.count(6); k++) {
+            text.append((char) machine.octet(k));
+        }
+        text.append("\", labels");
+        for (int line = 0; line < 20; line++) {
+            text.append(' ').append(machine.label(line));
+        }
+        text.append(", THINGS");
+        for (int address = 0; address < 0x200; address++) {
+            text.append(' ').append(machine.peek(address));
+        }
+        long sum = 0;
+        for (int address = 0x200; address < 65536; address++) {
+            sum = sum * 31 + machine.peek(address);
+        }
+        return text.append(", memory ").append(sum).toString();
+    }
+
     static void finish() {
         if (wrong > 0) {
             System.out.println(wrong + " of " + compared + " answers are wrong");
