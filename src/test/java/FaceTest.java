@@ -22,6 +22,7 @@ final class FaceTest {
             }
         }
         Check.same("public methods", seen.toString(), due.toString());
+        signatures();
         for (Field field : NapMachine.class.getDeclaredFields()) {
             boolean isPublic = Modifier.isPublic(field.getModifiers());
             Check.same(field.getName(), isPublic, field.getName().equals("NONE"));
@@ -32,6 +33,23 @@ final class FaceTest {
         Check.same("constructor is public", makers[0].getModifiers(), Modifier.PUBLIC);
         innerNames(due);
         Check.finish();
+    }
+
+    private static void signatures() {
+        String[] due = {"int feed(int,int,int,int,int)", "boolean end(int)", "int assemble()", "int fault()",
+            "int label(int)", "void reset()", "int event(int,int)", "int run(int,int) throws IllegalArgumentException",
+            "int register(int) throws IndexOutOfBoundsException", "void set(int,int) throws IndexOutOfBoundsException",
+            "int peek(int) throws IndexOutOfBoundsException", "boolean poke(int,int) throws IndexOutOfBoundsException",
+            "int count(int)", "int list(int) throws IndexOutOfBoundsException",
+            "int octet(int) throws NoSuchElementException"};
+        Set<String> seen = new TreeSet<>();
+        for (Method method : NapMachine.class.getDeclaredMethods()) {
+            if (Modifier.isPublic(method.getModifiers())) {
+                seen.add(method.toString().replace("public ", "").replace("NapMachine.", "").replace("java.lang.", "")
+                    .replace("java.util.", ""));
+            }
+        }
+        Check.same("signatures", seen.toString(), new TreeSet<>(Set.of(due)).toString());
     }
 
     private static void innerNames(Set<String> faceNames) {
